@@ -23,8 +23,6 @@ public final class TwinHost {
     public TwinHost(int quantum) {
         this.quantum = quantum >= 1 && quantum <= MOST_QUANTUM ? quantum : USUAL_QUANTUM;
         guests = new Guest[] {new Guest(), new Guest()};
-        holder = 0;
-        stepsInRow = 0;
     }
 
     public int poke(int g, int p, int w) {

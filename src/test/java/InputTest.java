@@ -73,7 +73,9 @@ public final class InputTest {
         TwinHost x = takers();
         x.input(0, 3, 61);
         x.input(0, 0, 62);
-        int[] due = {0, 0, 0, 61, 62, 0};
+        x.input(0, 7, 63);
+        x.input(0, 1, 64);
+        int[] due = {0, 0, 0, 61, 62, 0, 0, 63, 64, 0};
         for (int n = 0; n < due.length; n++) {
             x.run(1);
             Check.due("x1 at COUNT " + n, x.register(0, 1), due[n]);

@@ -117,6 +117,11 @@ public final class InstructionTest {
         Check.due("word 127", y.peek(0, 127), -6);
         Check.due("x3", y.register(0, 3), 0);
         Check.due("the other guest's word", y.peek(1, 127), 0);
+        TwinHost first = one(Check.op(11, 0, 1, 2, 0), 0, 35);
+        first.poke(0, 11, Check.op(10, 3, 1, 0, 0));
+        Check.due("store and load at word 0", first.run(2), 2);
+        Check.due("word 0", first.peek(0, 0), 35);
+        Check.due("x3", first.register(0, 3), 35);
         TwinHost z = one(Check.op(10, 0, 1, 0, 0), 127, 0);
         z.poke(0, 127, 33);
         Check.due("load to x0", z.run(1), 1);
@@ -227,6 +232,7 @@ public final class InstructionTest {
             illegal(Check.op(op, 3, 1, 2, 5), true);
             if (op > 24) {
                 illegal(Check.op(op, 3, 1, 2, -5), false);
+                illegal(Check.op(op, 3, 1, 2, 5), false);
             }
         }
         int[] words = {Check.op(17, 3, 1, 2, 9), Check.op(18, 3, 1, 2, 9)};

@@ -3,7 +3,8 @@ public final class TracedTest {
     public static void main(String[] args) {
         refused();
         storesInTables();
-        firstAndSecondAreOne();
+        firstAndSecondInOnePage();
+        everyPage();
         flushes();
         guestsAreApart();
         Check.end();
@@ -96,8 +97,23 @@ public final class TracedTest {
         Check.due("faults", x.count(0, 2), 1);
     }
 
-    /** A table that is its own second table: the word 32 is first and second of one entry. */
-    private static void firstAndSecondAreOne() {
+    /** Each page of the memory in turn holds the table; the code is in another one. */
+    private static void everyPage() {
+        for (int table = 0; table < 8; table++) {
+            TwinHost x = new TwinHost(16);
+            int code = table < 4 ? 4 : 0;
+            x.poke(0, table * 16, 9 + code * 256);
+            x.command(0, 6, 128 + table);
+            Check.due("not traced yet", x.traced(0, table), false);
+            Check.due("run with the table " + table, x.run(1), 1);
+            for (int p = 0; p < 8; p++) {
+                Check.due("traced " + p, x.traced(0, p), p == table);
+            }
+        }
+    }
+
+    /** A table that is its own second table: the words 32 and 33 are first and second of one entry. */
+    private static void firstAndSecondInOnePage() {
         TwinHost x = new TwinHost(16);
         x.poke(0, 35, 9);
         x.poke(0, 3, Check.op(10, 1, 0, 0, 18));
@@ -123,6 +139,7 @@ public final class TracedTest {
             x.poke(0, 2, w);
             Check.due("loads, then a flush", x.run(3), 3);
             Check.due("flushes", x.count(0, 5), 2);
+            Check.due("PC", x.pc(0), 3);
             Check.due("begun", x.count(0, 0), 1);
             counted(x, 3, 0, 0);
             for (int v = 0; v < 16; v++) {
