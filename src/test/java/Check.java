@@ -1,15 +1,24 @@
+import java.util.function.Consumer;
+import java.util.function.Supplier;
+
 /** What the tests share: answers compared with what is due, and words of instructions. */
 final class Check {
     private static int asked = 0;
     private static int wrong = 0;
+    private static String sentence = "";
 
     private Check() { }
+
+    /** The words of the document that the answers after this are about. */
+    static void sentence(String words) {
+        sentence = "\"" + words + "\": ";
+    }
 
     static void due(String what, long got, long want) {
         asked++;
         if (got != want) {
             wrong++;
-            System.out.println(what + " answered " + got + ", due is " + want);
+            System.out.println(sentence + what + " answered " + got + ", due is " + want);
         }
     }
 
@@ -28,7 +37,24 @@ final class Check {
         return op | d << 5 | a << 8 | b << 11 | i << 16;
     }
 
-    /** All that a guest shows, in one text, so that two moments can be compared. */
+    /**
+     * Nothing that can be seen is changed by the calls, now or later: two objects that were made alike
+     * stay alike. Each look has objects of its own, for an object serves for 512 calls.
+     */
+    static void changesNothing(String what, Supplier<TwinHost> make, Consumer<TwinHost> calls) {
+        for (int later = 0; later < 4; later++) {
+            TwinHost called = make.get();
+            calls.accept(called);
+            TwinHost left = make.get();
+            for (int n = 0; n < later; n++) {
+                int steps = n == 0 ? 1 : 40;
+                due(what + ", later run", called.run(steps), left.run(steps));
+            }
+            due(what + " changes nothing, " + later + " runs later", state(called).equals(state(left)), true);
+        }
+    }
+
+    /** All that the guests show, in one text, so that two moments can be compared: 367 calls. */
     static String state(TwinHost x) {
         StringBuilder all = new StringBuilder("turn " + x.turn());
         for (int g = 0; g < 2; g++) {

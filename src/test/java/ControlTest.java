@@ -2,7 +2,6 @@
 public final class ControlTest {
     public static void main(String[] args) {
         keptBits();
-        refused();
         pending();
         tableFlushes();
         Check.end();
@@ -25,26 +24,6 @@ public final class ControlTest {
         for (int k = 0; k < 12; k++) {
             Check.due("the other guest's control " + k, x.control(0, k), k == 9 ? 2147483647 : 0);
         }
-    }
-
-    private static void refused() {
-        TwinHost x = new TwinHost(4);
-        x.input(0, 0, 5);
-        String before = Check.state(x);
-        int[] wrong = {-1, 8, 10, 11, 12, 13, Integer.MIN_VALUE, Integer.MAX_VALUE};
-        for (int k : wrong) {
-            Check.due("command " + k, x.command(0, k, 6), false);
-        }
-        int[] none = {-1, 12, Integer.MIN_VALUE, Integer.MAX_VALUE};
-        for (int k : none) {
-            Check.due("control " + k, x.control(0, k), 0);
-        }
-        int[] guests = {-1, 2, Integer.MIN_VALUE, Integer.MAX_VALUE};
-        for (int g : guests) {
-            Check.due("command of guest " + g, x.command(g, 1, 6), false);
-            Check.due("control of guest " + g, x.control(g, 9), 0);
-        }
-        Check.due("nothing has changed", before.equals(Check.state(x)), true);
     }
 
     private static void pending() {

@@ -3,7 +3,6 @@ public final class InputTest {
     private static final int TAKE_X1 = Check.op(20, 1, 0, 0, 11);
 
     public static void main(String[] args) {
-        refused();
         takenInOrder();
         roomComesBack();
         lateFirstHidesTheNext();
@@ -17,24 +16,6 @@ public final class InputTest {
             x.poke(0, p, TAKE_X1);
         }
         return x;
-    }
-
-    private static void refused() {
-        TwinHost x = new TwinHost(4);
-        int[] guests = {-1, 2, Integer.MIN_VALUE, Integer.MAX_VALUE};
-        for (int g : guests) {
-            Check.due("input of guest " + g, x.input(g, 0, 1), false);
-        }
-        Check.due("negative time", x.input(0, -1, 1), false);
-        Check.due("very negative time", x.input(0, Integer.MIN_VALUE, 1), false);
-        Check.due("nothing is there", x.control(0, 8) + x.control(1, 8), 0);
-        for (int n = 0; n < 6; n++) {
-            Check.due("input " + n, x.input(0, Integer.MAX_VALUE, n), true);
-        }
-        Check.due("a seventh", x.input(0, 0, 9), false);
-        Check.due("the other guest has room", x.input(1, 0, 9), true);
-        Check.due("its INPUT", x.control(1, 11), 9);
-        Check.due("INPUT", x.control(0, 11), 0);
     }
 
     private static void takenInOrder() {

@@ -1,10 +1,9 @@
 /** Promise 12: run, one instruction at a time. */
 public final class InstructionTest {
-    private static final int MIN = Integer.MIN_VALUE;
-    private static final int MAX = Integer.MAX_VALUE;
+    private static final int MIN = Lab.MIN;
+    private static final int MAX = Lab.MAX;
 
     public static void main(String[] args) {
-        limits();
         sums();
         jumps();
         loadsAndStores();
@@ -14,38 +13,14 @@ public final class InstructionTest {
         Check.end();
     }
 
-    private static void limits() {
-        TwinHost x = new TwinHost(4);
-        String before = Check.state(x);
-        int[] wrong = {0, -1, 65, MIN, MAX};
-        for (int n : wrong) {
-            Check.due("run " + n, x.run(n), -1);
-        }
-        Check.due("nothing has changed", before.equals(Check.state(x)), true);
-        Check.due("run 1", x.run(1), 1);
-        Check.due("run 64", x.run(64), 64);
-        Check.due("steps", x.count(0, 8) + x.count(1, 8), 65);
-    }
-
-    /** One instruction at word 10 with x1 = a and x2 = b. */
-    private static TwinHost one(int w, int a, int b) {
-        TwinHost x = new TwinHost(16);
-        x.poke(0, 10, w);
-        x.place(0, 10, false);
-        x.give(0, 1, a);
-        x.give(0, 2, b);
-        x.command(0, 1, 90);
-        return x;
-    }
-
     private static void computes(int op, int a, int b, int i, int due) {
-        TwinHost x = one(Check.op(op, 3, 1, 2, i), a, b);
+        TwinHost x = Lab.one(Check.op(op, 3, 1, 2, i), a, b);
         String what = "op " + op + " of " + a + ", " + b + ", " + i;
         Check.due(what + " retired", x.run(1), 1);
         Check.due(what, x.register(0, 3), due);
         Check.due(what + " pc", x.pc(0), 11);
         Check.due(what + " COUNT", x.control(0, 10), 1);
-        TwinHost y = one(Check.op(op, 0, 1, 2, i), a, b);
+        TwinHost y = Lab.one(Check.op(op, 0, 1, 2, i), a, b);
         y.run(1);
         Check.due(what + " into x0", y.register(0, 0), 0);
     }
@@ -81,7 +56,7 @@ public final class InstructionTest {
     }
 
     private static void jumpsTo(int w, int a, int b, int pc, int link) {
-        TwinHost x = one(w, a, b);
+        TwinHost x = Lab.one(w, a, b);
         Check.due("retired " + w, x.run(1), 1);
         Check.due("pc " + w, x.pc(0), pc);
         Check.due("x3 " + w, x.register(0, 3), link);
@@ -100,29 +75,29 @@ public final class InstructionTest {
         jumpsTo(Check.op(15, 0, 1, 2, 0), 7, 7, 10, 0);
         jumpsTo(Check.op(16, 3, 1, 2, 1), MAX, 7, MIN, 11);
         jumpsTo(Check.op(16, 0, 1, 2, -1), 50, 7, 49, 0);
-        TwinHost x = one(Check.op(16, 1, 1, 0, 2), 50, 0);
+        TwinHost x = Lab.one(Check.op(16, 1, 1, 0, 2), 50, 0);
         x.run(1);
         Check.due("x1 is read before it is written", x.pc(0), 52);
         Check.due("x1", x.register(0, 1), 11);
     }
 
     private static void loadsAndStores() {
-        TwinHost x = one(Check.op(10, 3, 1, 0, -1), 128, 0);
+        TwinHost x = Lab.one(Check.op(10, 3, 1, 0, -1), 128, 0);
         x.poke(0, 127, 33);
         Check.due("load", x.run(1), 1);
         Check.due("x3", x.register(0, 3), 33);
-        TwinHost y = one(Check.op(11, 3, 1, 2, 27), 100, -6);
+        TwinHost y = Lab.one(Check.op(11, 3, 1, 2, 27), 100, -6);
         y.poke(0, 127, 33);
         Check.due("store", y.run(1), 1);
         Check.due("word 127", y.peek(0, 127), -6);
         Check.due("x3", y.register(0, 3), 0);
         Check.due("the other guest's word", y.peek(1, 127), 0);
-        TwinHost first = one(Check.op(11, 0, 1, 2, 0), 0, 35);
+        TwinHost first = Lab.one(Check.op(11, 0, 1, 2, 0), 0, 35);
         first.poke(0, 11, Check.op(10, 3, 1, 0, 0));
         Check.due("store and load at word 0", first.run(2), 2);
         Check.due("word 0", first.peek(0, 0), 35);
         Check.due("x3", first.register(0, 3), 35);
-        TwinHost z = one(Check.op(10, 0, 1, 0, 0), 127, 0);
+        TwinHost z = Lab.one(Check.op(10, 0, 1, 0, 0), 127, 0);
         z.poke(0, 127, 33);
         Check.due("load to x0", z.run(1), 1);
         Check.due("x0", z.register(0, 0), 0);
@@ -134,27 +109,15 @@ public final class InstructionTest {
     }
 
     private static void outside(int w, int v, int cause) {
-        TwinHost x = one(w, v, 4);
-        trapped(x, cause, v, "access at " + v);
+        TwinHost x = Lab.one(w, v, 4);
+        Lab.trapped(x, cause, v, "access at " + v);
         Check.due("x3", x.register(0, 3), 0);
         Check.due("faults", x.count(0, 2), 1);
     }
 
-    private static void trapped(TwinHost x, int cause, int tval, String what) {
-        boolean user = x.user(0);
-        Check.due(what + " retires nothing", x.run(1), 0);
-        Check.due(what + " CAUSE", x.control(0, 3), cause);
-        Check.due(what + " TVAL", x.control(0, 4), tval);
-        Check.due(what + " EPC", x.control(0, 2), 10);
-        Check.due(what + " PC", x.pc(0), 90);
-        Check.due(what + " mode", x.user(0), false);
-        Check.due(what + " COUNT", x.control(0, 10), 0);
-        Check.due(what + " PS", x.control(0, 0) & 4, user ? 0 : 4);
-    }
-
     private static void changes(int op, int k, int start, int given, int due) {
         String what = "op " + op + " of control " + k + " at " + start + " with " + given;
-        TwinHost x = one(Check.op(op, 3, 1, 0, k), given, 0);
+        TwinHost x = Lab.one(Check.op(op, 3, 1, 0, k), given, 0);
         x.command(0, k, start);
         int was = x.control(0, k);
         Check.due(what, x.run(1), 1);
@@ -195,7 +158,7 @@ public final class InstructionTest {
 
     private static void noStore() {
         for (int op = 20; op <= 21; op++) {
-            TwinHost x = one(Check.op(op, 3, 0, 0, 10), 0, 0);
+            TwinHost x = Lab.one(Check.op(op, 3, 0, 0, 10), 0, 0);
             x.poke(0, 11, Check.op(op, 4, 0, 0, 10));
             x.poke(0, 12, Check.op(op, 5, 0, 0, 8));
             x.poke(0, 13, Check.op(op, 6, 0, 0, 6));
@@ -217,10 +180,10 @@ public final class InstructionTest {
     }
 
     private static void illegal(int w, boolean user) {
-        TwinHost x = one(w, 3, 4);
+        TwinHost x = Lab.one(w, 3, 4);
         x.place(0, 10, user);
         x.input(0, 0, 5);
-        trapped(x, 2, w, "word " + w);
+        Lab.trapped(x, 2, w, "word " + w);
         Check.due("begun " + w, x.count(0, 0), 1);
         Check.due("x3", x.register(0, 3), 0);
         Check.due("INPUT stays", x.control(0, 11), 5);
@@ -238,9 +201,9 @@ public final class InstructionTest {
         int[] words = {Check.op(17, 3, 1, 2, 9), Check.op(18, 3, 1, 2, 9)};
         for (int w : words) {
             for (int user = 0; user < 2; user++) {
-                TwinHost x = one(w, 3, 4);
+                TwinHost x = Lab.one(w, 3, 4);
                 x.place(0, 10, user == 1);
-                trapped(x, (w & 31) == 18 ? 3 : user == 1 ? 8 : 9, 0, "word " + w);
+                Lab.trapped(x, (w & 31) == 18 ? 3 : user == 1 ? 8 : 9, 0, "word " + w);
                 Check.due("begun", x.count(0, 0), 1);
                 Check.due("no fault", x.count(0, 2), 0);
             }
@@ -248,15 +211,15 @@ public final class InstructionTest {
     }
 
     private static void readsComeFirst() {
-        TwinHost x = one(Check.op(19, 1, 1, 0, 5), 44, 0);
+        TwinHost x = Lab.one(Check.op(19, 1, 1, 0, 5), 44, 0);
         x.command(0, 5, 55);
         x.run(1);
         Check.due("x1 and SCRATCH change places", x.register(0, 1), 55);
         Check.due("SCRATCH", x.control(0, 5), 44);
-        TwinHost y = one(Check.op(10, 1, 1, 0, 0), 10, 0);
+        TwinHost y = Lab.one(Check.op(10, 1, 1, 0, 0), 10, 0);
         y.run(1);
         Check.due("a load may write its own base", y.register(0, 1), Check.op(10, 1, 1, 0, 0));
-        TwinHost z = one(Check.op(11, 0, 0, 1, 10), 77, 0);
+        TwinHost z = Lab.one(Check.op(11, 0, 0, 1, 10), 77, 0);
         Check.due("an instruction may store over itself", z.run(1), 1);
         Check.due("the word", z.peek(0, 10), 77);
     }

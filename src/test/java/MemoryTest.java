@@ -2,7 +2,6 @@
 public final class MemoryTest {
     public static void main(String[] args) {
         ordinary();
-        refused();
         dropsEntries();
         Check.end();
     }
@@ -20,26 +19,6 @@ public final class MemoryTest {
             Check.due("peek there", x.peek(1, p), Integer.MIN_VALUE);
         }
         Check.due("a word between", x.peek(0, 64), 0);
-    }
-
-    private static void refused() {
-        TwinHost x = new TwinHost(4);
-        for (int p = 0; p < 128; p++) {
-            x.poke(0, p, 7);
-            x.poke(1, p, 8);
-        }
-        String before = Check.state(x);
-        int[] words = {-1, 128, Integer.MIN_VALUE, Integer.MAX_VALUE, -128};
-        for (int p : words) {
-            Check.due("poke at " + p, x.poke(0, p, 9), 0);
-            Check.due("peek at " + p, x.peek(1, p), 0);
-        }
-        int[] guests = {-1, 2, Integer.MIN_VALUE, Integer.MAX_VALUE};
-        for (int g : guests) {
-            Check.due("poke of guest " + g, x.poke(g, 3, 9), 0);
-            Check.due("peek of guest " + g, x.peek(g, 3), 0);
-        }
-        Check.due("nothing has changed", before.equals(Check.state(x)), true);
     }
 
     /** Code on page 0 by a large leaf at word 32; page 5 is seen at 64 through words 33 and 48. */

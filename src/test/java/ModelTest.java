@@ -2,8 +2,10 @@ import java.util.Random;
 
 /** Long random runs of calls: every answer must be the model's, whatever the arguments are. */
 public final class ModelTest {
-    private static final int OBJECTS = 3000;
+    private static final int OBJECTS = 12000;
+    /** An object is made for 512 calls; the last of them look at all there is but the memory. */
     private static final int CALLS = 512;
+    private static final int LAST_LOOK = 111;
     private static final int[] ODD = {Integer.MIN_VALUE, Integer.MAX_VALUE, -1, 2, 8, 12, 16, 65, 128, 256};
 
     private static final int[] TABLE_WORDS = {32, 33, 34, 35, 48, 49, 50, 51};
@@ -13,6 +15,7 @@ public final class ModelTest {
     private final Model model;
     private final StringBuilder calls = new StringBuilder();
     private boolean same = true;
+    private int called = 0;
 
     private ModelTest(long seed) {
         random = new Random(seed);
@@ -28,30 +31,32 @@ public final class ModelTest {
             ModelTest test = new ModelTest(seed);
             test.go();
             Check.due(test.same ? "seed " + seed : test.calls.toString(), test.same, true);
+            Check.due("calls of seed " + seed, test.called, CALLS);
             for (int kind = 0; kind < 9; kind++) {
-                seen[kind] += test.host.count(0, kind) + test.host.count(1, kind);
+                seen[kind] += test.model.count(0, kind) + test.model.count(1, kind);
             }
         }
         for (int kind = 0; kind < 9; kind++) {
             System.out.println("count " + kind + " in all: " + seen[kind]);
-            Check.due("count " + kind + " is well tried", seen[kind] > OBJECTS, true);
+            Check.due("count " + kind + " is well tried", seen[kind] > OBJECTS / 2, true);
         }
         Check.end();
     }
 
     private void go() {
-        int setUp = layOut(0) + layOut(1);
-        for (int n = setUp; n < CALLS && same; n++) {
+        layOut(0);
+        layOut(1);
+        while (called < CALLS - LAST_LOOK - 8 && same) {
             one();
         }
-        for (int g = 0; g < 2; g++) {
-            for (int p = 0; p < 128; p++) {
-                answer("peek", g, p, 0, host.peek(g, p), model.peek(g, p));
-            }
+        while (called < CALLS - LAST_LOOK && same) {
+            peek(random.nextInt(2), random.nextInt(128));
         }
+        lookAtAll();
     }
 
     private void answer(String name, int a, int b, int c, long got, long want) {
+        called++;
         if (same) {
             calls.append("\n").append(name).append(' ').append(a).append(' ').append(b).append(' ').append(c);
             calls.append(" = ").append(got);
@@ -110,35 +115,36 @@ public final class ModelTest {
     }
 
     /** Tables at the pages 2 and 3, code elsewhere, as often as not with translation on. */
-    private int layOut(int g) {
-        int before = 0;
+    private void layOut(int g) {
         for (int p = 0; p < 128; p++) {
             boolean table = (p >> 4 == 2 || p >> 4 == 3) && (p & 15) < 4;
-            if (table || random.nextInt(3) != 0) {
+            if (table || p < 32 || random.nextInt(5) == 0) {
                 int w = table ? tableWord() : instruction();
                 if (p >> 4 == 2 && table && random.nextInt(4) != 0) {
                     w = p == 32 ? 15 : of(15, 31, 31, 1 + 3 * 256, 1 + 3 * 256, 1 + 2 * 256, 15 + 4 * 256);
                 }
-                answer("poke", g, p, w, host.poke(g, p, w), model.poke(g, p, w));
-                before++;
+                poke(g, p, w);
             }
         }
-        int vector = random.nextInt(64);
-        answer("command", g, 1, vector, host.command(g, 1, vector) ? 1 : 0, model.command(g, 1, vector) ? 1 : 0);
-        int table = of(130, 130, 130, 131, 2, 0);
-        answer("command", g, 6, table, host.command(g, 6, table) ? 1 : 0, model.command(g, 6, table) ? 1 : 0);
-        return before + 2;
+        command(g, 1, random.nextInt(random.nextInt(8) == 0 ? 64 : 32));
+        command(g, 6, of(130, 130, 130, 131, 2, 0));
+        for (int k = 5; k < 8; k++) {
+            give(g, k, of(15, 31, 15, 1 + 3 * 256));
+        }
+        command(g, 7, random.nextInt(4));
+        command(g, 9, random.nextInt(60));
+        input(g, random.nextInt(30), value());
     }
 
     private void one() {
         int g = guest();
-        switch (random.nextInt(24)) {
+        switch (random.nextInt(20)) {
             case 0 -> poke(g, index(128), value());
             case 1 -> poke(g, of(TABLE_WORDS), random.nextInt(3) == 0 ? tableWord() : of(15, 31, 1 + 3 * 256));
             case 2 -> give(g, index(8), value());
             case 3 -> rarer(g);
             case 4 -> command(g, of(0, 7, 9), random.nextInt(64));
-            case 5, 14, 15, 16 -> place(g, random.nextInt(8) == 0 ? value() : random.nextInt(256), random.nextBoolean());
+            case 5, 14, 15 -> place(g, random.nextInt(8) == 0 ? value() : random.nextInt(256), random.nextBoolean());
             case 6 -> input(g, random.nextInt(10) == 0 ? of(ODD) : random.nextInt(150), value());
             case 7, 8, 9, 10, 11, 12 -> run(random.nextInt(40) == 0 ? of(ODD) : 1 + random.nextInt(5));
             case 13 -> run(1 + random.nextInt(64));
@@ -148,10 +154,10 @@ public final class ModelTest {
 
     /** What breaks most of what is laid out, so that it must not come too often. */
     private void rarer(int g) {
-        if (random.nextInt(4) == 0) {
-            command(g, index(12), value());
-        } else {
-            command(g, of(1, 6), of(random.nextInt(64), 128 + random.nextInt(16), 130, 130, 130));
+        switch (random.nextInt(4)) {
+            case 0 -> command(g, index(12), value());
+            case 1 -> command(g, 1, random.nextInt(64));
+            default -> command(g, 6, of(random.nextInt(256), 128 + random.nextInt(16), 130, 130, 130));
         }
     }
 
@@ -180,23 +186,68 @@ public final class ModelTest {
         answer("run", n, 0, 0, host.run(n), model.run(n));
         answer("turn", 0, 0, 0, host.turn(), model.turn());
         for (int g = 0; g < 2; g++) {
-            for (int k = 0; k < 12; k++) {
-                answer("control", g, k, 0, host.control(g, k), model.control(g, k));
-            }
+            control(g, of(0, 3, 4, 8, 10));
+            place(g);
         }
     }
 
     private void look(int g) {
-        for (int k = -1; k < 17; k++) {
-            answer("shadow", g, k, 0, host.shadow(g, k), model.shadow(g, k));
-            answer("traced", g, k, 0, host.traced(g, k) ? 1 : 0, model.traced(g, k) ? 1 : 0);
-            answer("count", g, k, 0, host.count(g, k), model.count(g, k));
-            answer("register", g, k, 0, host.register(g, k), model.register(g, k));
-            answer("control", g, k, 0, host.control(g, k), model.control(g, k));
+        switch (random.nextInt(6)) {
+            case 0 -> shadow(g, index(16));
+            case 1 -> traced(g, index(8));
+            case 2 -> count(g, index(9));
+            case 3 -> register(g, index(8));
+            case 4 -> control(g, index(12));
+            default -> peek(g, index(128));
         }
+    }
+
+    private void lookAtAll() {
+        answer("turn", 0, 0, 0, host.turn(), model.turn());
+        for (int g = 0; g < 2; g++) {
+            place(g);
+            for (int k = 0; k < 16; k++) {
+                shadow(g, k);
+            }
+            for (int k = 0; k < 12; k++) {
+                control(g, k);
+            }
+            for (int k = 0; k < 9; k++) {
+                count(g, k);
+            }
+            for (int k = 0; k < 8; k++) {
+                register(g, k);
+                traced(g, k);
+            }
+        }
+    }
+
+    private void peek(int g, int p) {
+        answer("peek", g, p, 0, host.peek(g, p), model.peek(g, p));
+    }
+
+    private void register(int g, int k) {
+        answer("register", g, k, 0, host.register(g, k), model.register(g, k));
+    }
+
+    private void control(int g, int k) {
+        answer("control", g, k, 0, host.control(g, k), model.control(g, k));
+    }
+
+    private void place(int g) {
         answer("pc", g, 0, 0, host.pc(g), model.pc(g));
         answer("user", g, 0, 0, host.user(g) ? 1 : 0, model.user(g) ? 1 : 0);
-        int p = index(128);
-        answer("peek", g, p, 0, host.peek(g, p), model.peek(g, p));
+    }
+
+    private void shadow(int g, int v) {
+        answer("shadow", g, v, 0, host.shadow(g, v), model.shadow(g, v));
+    }
+
+    private void traced(int g, int p) {
+        answer("traced", g, p, 0, host.traced(g, p) ? 1 : 0, model.traced(g, p) ? 1 : 0);
+    }
+
+    private void count(int g, int kind) {
+        answer("count", g, kind, 0, host.count(g, kind), model.count(g, kind));
     }
 }

@@ -1,34 +1,12 @@
 /** Promises 14, 15 and 16: traced pages, what a store there drops, flushes, and the counts. */
 public final class TracedTest {
     public static void main(String[] args) {
-        refused();
         storesInTables();
         firstAndSecondInOnePage();
         everyPage();
         flushes();
         guestsAreApart();
         Check.end();
-    }
-
-    private static void refused() {
-        TwinHost x = tables();
-        x.run(3);
-        String before = Check.state(x);
-        int[] guests = {-1, 2, Integer.MIN_VALUE, Integer.MAX_VALUE};
-        for (int g : guests) {
-            Check.due("shadow of guest " + g, x.shadow(g, 0), -1);
-            Check.due("traced of guest " + g, x.traced(g, 2), false);
-            Check.due("count of guest " + g, x.count(g, 8), -1);
-        }
-        int[] wrong = {-1, 16, 17, Integer.MIN_VALUE, Integer.MAX_VALUE};
-        for (int k : wrong) {
-            Check.due("shadow " + k, x.shadow(0, k), -1);
-            Check.due("traced " + k, x.traced(0, k), false);
-            Check.due("count " + k, x.count(0, k), -1);
-        }
-        Check.due("traced 8", x.traced(0, 8), false);
-        Check.due("count 9", x.count(0, 9), -1);
-        Check.due("nothing has changed", before.equals(Check.state(x)), true);
     }
 
     /**

@@ -1,18 +1,15 @@
 /** Promises 12 and 14: accesses, walks and the shadow entries that they fill. */
 public final class WalkTest {
-    private static final int V = 1;
-    private static final int R = 2;
-    private static final int W = 4;
-    private static final int X = 8;
-    private static final int U = 16;
-    private static final int A = 32;
-    private static final int D = 64;
-    private static final int FETCH = 0;
-    private static final int LOAD = 1;
-    private static final int STORE = 2;
-    private static final int[] OUTSIDE = {1, 5, 7};
-    private static final int[] PAGE_FAULT = {12, 13, 15};
-    private static final int DATA = 12345 << 5;
+    private static final int V = Lab.V;
+    private static final int R = Lab.R;
+    private static final int W = Lab.W;
+    private static final int X = Lab.X;
+    private static final int U = Lab.U;
+    private static final int A = Lab.A;
+    private static final int D = Lab.D;
+    private static final int FETCH = Lab.FETCH;
+    private static final int LOAD = Lab.LOAD;
+    private static final int STORE = Lab.STORE;
 
     public static void main(String[] args) {
         for (int kind = 0; kind < 3; kind++) {
@@ -32,110 +29,68 @@ public final class WalkTest {
         Check.end();
     }
 
-    private static int entry(int bits, int page) {
-        return bits | page << 8;
-    }
-
-    /**
-     * The table is page 2. Code is at the virtual page 15, which is page 7 of the memory; the
-     * addresses 0 .. 63 are free for the trial. Words of the pages 4 .. 6 that are fetched do nothing.
-     */
-    private static TwinHost machine(boolean user, boolean sum) {
-        TwinHost x = new TwinHost(16);
-        x.poke(0, 35, entry(V | X | (user ? U : 0), 4));
-        x.command(0, 0, sum ? 8 : 0);
-        x.command(0, 1, -1);
-        x.command(0, 6, 130);
-        x.place(0, 240, user);
-        return x;
-    }
-
-    /** Lets the guest do the access at v; answers how many instructions retired. */
-    private static int access(TwinHost x, int kind, int v) {
-        x.give(0, 1, v);
-        x.give(0, 2, DATA);
-        x.poke(0, 112, Check.op(kind == LOAD ? 10 : 11, 3, 1, 2, 0));
-        x.place(0, kind == FETCH ? v : 240, x.user(0));
-        return x.run(1);
-    }
-
-    private static void faults(TwinHost x, int kind, int v, int cause, String what) {
-        int filled = x.count(0, 1);
-        int faults = x.count(0, 2);
-        int codeFill = kind != FETCH && x.shadow(0, 15) == -1 ? 1 : 0;
-        boolean user = x.user(0);
-        Check.due(what + " retires", access(x, kind, v), 0);
-        Check.due(what + " CAUSE", x.control(0, 3), cause);
-        Check.due(what + " TVAL", x.control(0, 4), v);
-        Check.due(what + " EPC", x.control(0, 2), kind == FETCH ? v : 240);
-        Check.due(what + " faults", x.count(0, 2), faults + 1);
-        Check.due(what + " fills", x.count(0, 1), filled + codeFill);
-        Check.due(what + " traps to S", x.user(0), false);
-        x.place(0, 240, user);
-    }
-
     private static void addressEdges(int kind) {
         int[] wrong = {-1, 256, Integer.MIN_VALUE, Integer.MAX_VALUE};
         for (int v : wrong) {
-            faults(machine(false, false), kind, v, PAGE_FAULT[kind], "kind " + kind + " at " + v);
+            Lab.faults(Lab.paged(false, false), kind, v, Lab.PAGE_FAULT[kind], "kind " + kind + " at " + v);
         }
-        TwinHost x = machine(false, false);
-        x.poke(0, 32, entry(V | R | W | X, 4));
-        Check.due("at 0", access(x, kind, 0), 1);
-        Check.due("at 47", access(x, kind, 47), 1);
+        TwinHost x = Lab.paged(false, false);
+        x.poke(0, 32, Lab.entry(V | R | W | X, 4));
+        Check.due("at 0", Lab.access(x, kind, 0), 1);
+        Check.due("at 47", Lab.access(x, kind, 47), 1);
         Check.due("entry of 0", x.shadow(0, 0), 4 + 8 * 14 + (kind == STORE ? 512 : 0));
         Check.due("entry of 47", x.shadow(0, 2), 6 + 8 * 14 + (kind == STORE ? 512 : 0));
     }
 
     private static void brokenTables(int kind) {
-        int out = OUTSIDE[kind];
-        int page = PAGE_FAULT[kind];
+        int out = Lab.OUTSIDE[kind];
+        int page = Lab.PAGE_FAULT[kind];
         int all = V | R | W | X;
-        firstFaults(kind, entry(all - V, 4), page);
-        firstFaults(kind, entry(V | W, 4), page);
-        firstFaults(kind, entry(V | W | X, 4), page);
+        firstFaults(kind, Lab.entry(all - V, 4), page);
+        firstFaults(kind, Lab.entry(V | W, 4), page);
+        firstFaults(kind, Lab.entry(V | W | X, 4), page);
         for (int number = 0; number < 16; number++) {
             if (number % 4 != 0) {
-                firstFaults(kind, entry(all, number), page);
+                firstFaults(kind, Lab.entry(all, number), page);
             }
         }
-        firstFaults(kind, entry(all, 8), out);
-        firstFaults(kind, entry(all, 12), out);
-        firstFaults(kind, entry(all | U, 8), page);
+        firstFaults(kind, Lab.entry(all, 8), out);
+        firstFaults(kind, Lab.entry(all, 12), out);
+        firstFaults(kind, Lab.entry(all | U, 8), page);
         for (int number = 8; number < 16; number++) {
-            firstFaults(kind, entry(V, number), out);
-            firstFaults(kind, entry(number, number), page);
-            secondFaults(kind, entry(all, number), out);
-            secondFaults(kind, entry(V | U, number), page);
-            secondFaults(kind, entry(all | U, number), page);
+            firstFaults(kind, Lab.entry(V, number), out);
+            firstFaults(kind, Lab.entry(number, number), page);
+            secondFaults(kind, Lab.entry(all, number), out);
+            secondFaults(kind, Lab.entry(V | U, number), page);
+            secondFaults(kind, Lab.entry(all | U, number), page);
         }
         secondFaults(kind, 0, page);
-        secondFaults(kind, entry(all - V, 4), page);
-        secondFaults(kind, entry(V, 4), page);
-        secondFaults(kind, entry(V | W, 4), page);
-        secondFaults(kind, entry(V | W | X, 4), page);
-        TwinHost x = machine(false, false);
+        secondFaults(kind, Lab.entry(all - V, 4), page);
+        secondFaults(kind, Lab.entry(V, 4), page);
+        secondFaults(kind, Lab.entry(V | W, 4), page);
+        secondFaults(kind, Lab.entry(V | W | X, 4), page);
+        TwinHost x = Lab.paged(false, false);
         x.command(0, 6, 128 + 8);
         // The code cannot be fetched without a table, so only a fetch shows this.
-        faults(x, FETCH, 17, 1, "TABLE 8");
+        Lab.faults(x, FETCH, 17, 1, "TABLE 8");
         x.command(0, 6, 128 + 15);
-        faults(x, FETCH, 255, 1, "TABLE 15");
-        faults(x, FETCH, 256, 12, "TABLE 15, too far");
+        Lab.faults(x, FETCH, 255, 1, "TABLE 15");
+        Lab.faults(x, FETCH, 256, 12, "TABLE 15, too far");
     }
 
     private static void firstFaults(int kind, int first, int cause) {
-        TwinHost x = machine(false, false);
+        TwinHost x = Lab.paged(false, false);
         x.poke(0, 32, first);
-        faults(x, kind, 21, cause, "kind " + kind + " first " + first);
+        Lab.faults(x, kind, 21, cause, "kind " + kind + " first " + first);
         Check.due("first word stays", x.peek(0, 32), first);
         Check.due("no entry", x.shadow(0, 1), -1);
     }
 
     private static void secondFaults(int kind, int second, int cause) {
-        TwinHost x = machine(false, false);
-        x.poke(0, 32, entry(V, 3));
+        TwinHost x = Lab.paged(false, false);
+        x.poke(0, 32, Lab.entry(V, 3));
         x.poke(0, 49, second);
-        faults(x, kind, 21, cause, "kind " + kind + " second " + second);
+        Lab.faults(x, kind, 21, cause, "kind " + kind + " second " + second);
         Check.due("second word stays", x.peek(0, 49), second);
         Check.due("no entry", x.shadow(0, 1), -1);
         Check.due("page 3 is not traced", x.traced(0, 3), false);
@@ -152,17 +107,17 @@ public final class WalkTest {
         boolean goes = good && allowed(kind, bits, user, sum);
         String what = "kind " + kind + " bits " + bits + (user ? " U" : " S") + (sum ? " SUM" : "");
         for (int more = 0; more < 4; more++) {
-            int leaf = entry(bits | (more & 1) * A | (more & 2) / 2 * D, 4);
-            TwinHost large = machine(user, sum);
+            int leaf = Lab.entry(bits | (more & 1) * A | (more & 2) / 2 * D, 4);
+            TwinHost large = Lab.paged(user, sum);
             large.poke(0, 32, leaf);
-            TwinHost small = machine(user, sum);
-            small.poke(0, 32, entry(V, 3));
-            small.poke(0, 49, entry(leaf & 255, 5));
+            TwinHost small = Lab.paged(user, sum);
+            small.poke(0, 32, Lab.entry(V, 3));
+            small.poke(0, 49, Lab.entry(leaf & 255, 5));
             if (!goes) {
                 if ((bits & (V | R | W | X)) != V) {
-                    faults(large, kind, 21, PAGE_FAULT[kind], what + " large");
+                    Lab.faults(large, kind, 21, Lab.PAGE_FAULT[kind], what + " large");
                 }
-                faults(small, kind, 21, PAGE_FAULT[kind], what + " small");
+                Lab.faults(small, kind, 21, Lab.PAGE_FAULT[kind], what + " small");
                 continue;
             }
             goesTo(large, kind, 32, what + " large");
@@ -175,12 +130,12 @@ public final class WalkTest {
         int leaf = x.peek(0, leafAt);
         int due = leaf | A | (kind == STORE ? D : 0);
         x.poke(0, 85, kind == FETCH ? 0 : 777 << 5);
-        Check.due(what + " retires", access(x, kind, 21), 1);
+        Check.due(what + " retires", Lab.access(x, kind, 21), 1);
         Check.due(what + " leaf", x.peek(0, leafAt), due);
         Check.due(what + " entry", x.shadow(0, 1), 5 + 8 * (leaf & 30) + ((due & D) != 0 ? 512 : 0));
         Check.due(what + " fills", x.count(0, 1), kind == FETCH ? 1 : 2);
         Check.due(what + " loaded", x.register(0, 3), kind == LOAD ? 777 << 5 : 0);
-        Check.due(what + " word", x.peek(0, 85), kind == FETCH ? 0 : kind == LOAD ? 777 << 5 : DATA);
+        Check.due(what + " word", x.peek(0, 85), kind == FETCH ? 0 : kind == LOAD ? 777 << 5 : Lab.DATA);
         Check.due(what + " traces", x.traced(0, leafAt >> 4) && x.traced(0, 2), true);
         Check.due(what + " traces no other", x.traced(0, 5) || x.traced(0, leafAt == 32 ? 3 : 4), false);
     }
@@ -189,9 +144,9 @@ public final class WalkTest {
         for (int v = 0; v < 16; v++) {
             TwinHost x = new TwinHost(16);
             for (int n = 0; n < 4; n++) {
-                x.poke(0, 16 + n, entry(V, 2 + n));
+                x.poke(0, 16 + n, Lab.entry(V, 2 + n));
                 for (int m = 0; m < 4; m++) {
-                    x.poke(0, 32 + 16 * n + m, entry(V | R | X, (n + m) % 8));
+                    x.poke(0, 32 + 16 * n + m, Lab.entry(V | R | X, (n + m) % 8));
                 }
             }
             x.command(0, 6, 129);
@@ -212,55 +167,55 @@ public final class WalkTest {
 
     /** An entry serves until it is dropped, even if the walk would now say something else. */
     private static void reuse() {
-        TwinHost x = machine(false, false);
-        x.poke(0, 32, entry(V | R, 4));
-        access(x, LOAD, 21);
+        TwinHost x = Lab.paged(false, false);
+        x.poke(0, 32, Lab.entry(V | R, 4));
+        Lab.access(x, LOAD, 21);
         Check.due("fills", x.count(0, 1), 2);
-        access(x, LOAD, 22);
-        access(x, LOAD, 31);
+        Lab.access(x, LOAD, 22);
+        Lab.access(x, LOAD, 31);
         Check.due("no more fills", x.count(0, 1), 2);
-        access(x, LOAD, 32);
+        Lab.access(x, LOAD, 32);
         Check.due("the next page", x.count(0, 1), 3);
-        x.poke(0, 32, entry(V | R, 0));
+        x.poke(0, 32, Lab.entry(V | R, 0));
         x.poke(0, 5, 4711);
         Check.due("both are dropped", x.count(0, 4), 2);
         x.place(0, 240, false);
-        access(x, LOAD, 5);
+        Lab.access(x, LOAD, 5);
         Check.due("the new table counts", x.register(0, 3), 4711);
         Check.due("filled again", x.shadow(0, 0), 8 * R);
     }
 
     private static void dirty() {
-        TwinHost x = machine(false, false);
-        x.poke(0, 32, entry(V, 3));
-        x.poke(0, 33, entry(V, 3));
-        x.poke(0, 49, entry(V | R | W, 5));
-        access(x, LOAD, 21);
+        TwinHost x = Lab.paged(false, false);
+        x.poke(0, 32, Lab.entry(V, 3));
+        x.poke(0, 33, Lab.entry(V, 3));
+        x.poke(0, 49, Lab.entry(V | R | W, 5));
+        Lab.access(x, LOAD, 21);
         Check.due("D is off", x.shadow(0, 1), 5 + 8 * 6);
-        access(x, LOAD, 85);
+        Lab.access(x, LOAD, 85);
         Check.due("D is off at the other", x.shadow(0, 5), 5 + 8 * 6);
         Check.due("fills", x.count(0, 1), 3);
-        access(x, STORE, 21);
+        Lab.access(x, STORE, 21);
         Check.due("D is on", x.shadow(0, 1), 5 + 8 * 6 + 512);
-        Check.due("D is on in the leaf", x.peek(0, 49), entry(V | R | W | A | D, 5));
+        Check.due("D is on in the leaf", x.peek(0, 49), Lab.entry(V | R | W | A | D, 5));
         Check.due("a walk for D", x.count(0, 1), 4);
         Check.due("the other entry stays as it was", x.shadow(0, 5), 5 + 8 * 6);
         Check.due("nothing is dropped", x.count(0, 4), 0);
-        access(x, STORE, 85);
+        Lab.access(x, STORE, 85);
         Check.due("so its store walks too", x.count(0, 1), 5);
         Check.due("D is on there", x.shadow(0, 5), 5 + 8 * 6 + 512);
-        access(x, STORE, 85);
-        access(x, STORE, 21);
-        access(x, LOAD, 21);
+        Lab.access(x, STORE, 85);
+        Lab.access(x, STORE, 21);
+        Lab.access(x, LOAD, 21);
         Check.due("now all go through", x.count(0, 1), 5);
         Check.due("no traced stores", x.count(0, 3), 0);
     }
 
     private static void modeAndEntries() {
-        TwinHost x = machine(true, false);
-        x.poke(0, 34, entry(V | X, 4));
-        x.poke(0, 32, entry(V | R | W | U, 4));
-        access(x, LOAD, 21);
+        TwinHost x = Lab.paged(true, false);
+        x.poke(0, 34, Lab.entry(V | X, 4));
+        x.poke(0, 32, Lab.entry(V | R | W | U, 4));
+        Lab.access(x, LOAD, 21);
         int had = x.shadow(0, 1);
         Check.due("entry", had, 5 + 8 * 22);
         // The same code, at the virtual page 11, where mode S may fetch it.
@@ -284,14 +239,14 @@ public final class WalkTest {
 
     /** The access comes after its fill, so a load of its own leaf finds A on there. */
     private static void ownLeaf() {
-        TwinHost x = machine(false, false);
-        x.poke(0, 32, entry(V, 3));
-        x.poke(0, 50, entry(V | R | W, 3));
-        Check.due("load of its own leaf", access(x, LOAD, 34), 1);
-        Check.due("A is on", x.register(0, 3), entry(V | R | W | A, 3));
+        TwinHost x = Lab.paged(false, false);
+        x.poke(0, 32, Lab.entry(V, 3));
+        x.poke(0, 50, Lab.entry(V | R | W, 3));
+        Check.due("load of its own leaf", Lab.access(x, LOAD, 34), 1);
+        Check.due("A is on", x.register(0, 3), Lab.entry(V | R | W | A, 3));
         Check.due("the entry stays", x.shadow(0, 2), 3 + 8 * 6);
-        Check.due("store at its own leaf", access(x, STORE, 34), 1);
-        Check.due("the word is what was stored", x.peek(0, 50), DATA);
+        Check.due("store at its own leaf", Lab.access(x, STORE, 34), 1);
+        Check.due("the word is what was stored", x.peek(0, 50), Lab.DATA);
         Check.due("the entry is dropped", x.shadow(0, 2), -1);
         Check.due("dropped", x.count(0, 4), 1);
         Check.due("a traced store", x.count(0, 3), 1);
