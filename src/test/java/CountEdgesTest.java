@@ -3,7 +3,6 @@ public final class CountEdgesTest {
     private static final int CALLS = 512;
 
     public static void main(String[] args) {
-        quanta();
         stallPassesTheTurn();
         rowStartsAnew();
         begun();
@@ -16,22 +15,6 @@ public final class CountEdgesTest {
         countsAreEachGuestsOwn();
         longestLife();
         Check.end();
-    }
-
-    private static void quanta() {
-        Check.sentence("QUANTUM is quantum if that is 1 .. 16, else 4.");
-        int[] asked = {1, 2, 15, 16, 0, 17, -1, 4, Lab.MIN, Lab.MAX};
-        int[] due = {1, 2, 15, 16, 4, 4, 4, 4, 4, 4};
-        for (int n = 0; n < asked.length; n++) {
-            TwinHost x = new TwinHost(asked[n]);
-            for (int step = 1; step <= 3 * due[n]; step++) {
-                Check.due("retires", x.run(1), 1);
-                int rows = step / due[n];
-                Check.due("quantum " + asked[n] + ", turn after " + step, x.turn(), rows % 2);
-                Check.due("switches of guest 0", x.count(0, 7), (rows + 1) / 2);
-                Check.due("switches of guest 1", x.count(1, 7), rows / 2);
-            }
-        }
     }
 
     private static void stallPassesTheTurn() {

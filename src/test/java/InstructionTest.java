@@ -8,8 +8,6 @@ public final class InstructionTest {
         jumps();
         loadsAndStores();
         controls();
-        systemInUser();
-        readsComeFirst();
         Check.end();
     }
 
@@ -141,19 +139,6 @@ public final class InstructionTest {
         changes(19, 3, 3, -9, -9);
         changes(19, 1, 3, -9, -9);
         noStore();
-        int[] none = {12, -1, 32767, -32768, 13};
-        for (int op = 19; op <= 21; op++) {
-            for (int k : none) {
-                illegal(Check.op(op, 3, 0, 0, k), false);
-                illegal(Check.op(op, 3, 1, 0, k), false);
-            }
-            illegal(Check.op(op, 3, 1, 0, 8), false);
-            illegal(Check.op(op, 3, 1, 0, 10), false);
-            illegal(Check.op(op, 3, 1, 0, 11), false);
-        }
-        illegal(Check.op(19, 3, 0, 0, 8), false);
-        illegal(Check.op(19, 0, 0, 0, 10), false);
-        illegal(Check.op(19, 3, 0, 0, 11), false);
     }
 
     private static void noStore() {
@@ -177,50 +162,5 @@ public final class InstructionTest {
             Check.due("TIMER", x.control(0, 9), 0);
             Check.due("TIMER was", x.register(0, 6), 2);
         }
-    }
-
-    private static void illegal(int w, boolean user) {
-        TwinHost x = Lab.one(w, 3, 4);
-        x.place(0, 10, user);
-        x.input(0, 0, 5);
-        Lab.trapped(x, 2, w, "word " + w);
-        Check.due("begun " + w, x.count(0, 0), 1);
-        Check.due("x3", x.register(0, 3), 0);
-        Check.due("INPUT stays", x.control(0, 11), 5);
-        Check.due("no flush", x.count(0, 5), 0);
-    }
-
-    private static void systemInUser() {
-        for (int op = 19; op <= 31; op++) {
-            illegal(Check.op(op, 3, 1, 2, 5), true);
-            if (op > 24) {
-                illegal(Check.op(op, 3, 1, 2, -5), false);
-                illegal(Check.op(op, 3, 1, 2, 5), false);
-            }
-        }
-        int[] words = {Check.op(17, 3, 1, 2, 9), Check.op(18, 3, 1, 2, 9)};
-        for (int w : words) {
-            for (int user = 0; user < 2; user++) {
-                TwinHost x = Lab.one(w, 3, 4);
-                x.place(0, 10, user == 1);
-                Lab.trapped(x, (w & 31) == 18 ? 3 : user == 1 ? 8 : 9, 0, "word " + w);
-                Check.due("begun", x.count(0, 0), 1);
-                Check.due("no fault", x.count(0, 2), 0);
-            }
-        }
-    }
-
-    private static void readsComeFirst() {
-        TwinHost x = Lab.one(Check.op(19, 1, 1, 0, 5), 44, 0);
-        x.command(0, 5, 55);
-        x.run(1);
-        Check.due("x1 and SCRATCH change places", x.register(0, 1), 55);
-        Check.due("SCRATCH", x.control(0, 5), 44);
-        TwinHost y = Lab.one(Check.op(10, 1, 1, 0, 0), 10, 0);
-        y.run(1);
-        Check.due("a load may write its own base", y.register(0, 1), Check.op(10, 1, 1, 0, 0));
-        TwinHost z = Lab.one(Check.op(11, 0, 0, 1, 10), 77, 0);
-        Check.due("an instruction may store over itself", z.run(1), 1);
-        Check.due("the word", z.peek(0, 10), 77);
     }
 }

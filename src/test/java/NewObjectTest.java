@@ -2,15 +2,12 @@
 public final class NewObjectTest {
     public static void main(String[] args) {
         allIsEmpty();
-        int[][] quanta = {{1, 1}, {2, 2}, {15, 15}, {16, 16}, {0, 4}, {17, 4}, {-1, 4}, {4, 4},
-            {Integer.MIN_VALUE, 4}, {Integer.MAX_VALUE, 4}};
-        for (int[] row : quanta) {
-            quantumIs(row[0], row[1]);
-        }
+        quanta();
         Check.end();
     }
 
     private static void allIsEmpty() {
+        Check.sentence("memory, registers, PC and controls 0, but TIMER 2147483647; mode S; no inputs, no shadow entries");
         TwinHost x = new TwinHost(4);
         Check.due("turn", x.turn(), 0);
         for (int g = 0; g < 2; g++) {
@@ -32,22 +29,25 @@ public final class NewObjectTest {
             for (int kind = 0; kind < 9; kind++) {
                 Check.due("count " + kind, x.count(g, kind), 0);
             }
+            for (int n = 0; n < 6; n++) {
+                Check.due("no inputs, so there is room", x.input(g, 0, 1), true);
+            }
         }
     }
 
-    private static void quantumIs(int asked, int due) {
-        TwinHost x = new TwinHost(asked);
-        for (int done = 1; done < due; done++) {
-            x.run(1);
-            Check.due("quantum " + asked + ", turn after " + done, x.turn(), 0);
+    private static void quanta() {
+        Check.sentence("QUANTUM is quantum if that is 1 .. 16, else 4.");
+        int[] asked = {1, 2, 15, 16, 0, 17, -1, 4, Lab.MIN, Lab.MAX};
+        int[] due = {1, 2, 15, 16, 4, 4, 4, 4, 4, 4};
+        for (int n = 0; n < asked.length; n++) {
+            TwinHost x = new TwinHost(asked[n]);
+            for (int step = 1; step <= 3 * due[n]; step++) {
+                Check.due("retires", x.run(1), 1);
+                int rows = step / due[n];
+                Check.due("quantum " + asked[n] + ", turn after " + step, x.turn(), rows % 2);
+                Check.due("switches of guest 0", x.count(0, 7), (rows + 1) / 2);
+                Check.due("switches of guest 1", x.count(1, 7), rows / 2);
+            }
         }
-        x.run(1);
-        Check.due("quantum " + asked + ", turn after " + due, x.turn(), 1);
-        for (int done = 1; done < due; done++) {
-            x.run(1);
-            Check.due("quantum " + asked + ", turn back after " + done, x.turn(), 1);
-        }
-        x.run(1);
-        Check.due("quantum " + asked + ", turn back", x.turn(), 0);
     }
 }

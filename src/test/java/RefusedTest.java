@@ -260,12 +260,17 @@ public final class RefusedTest {
         }
     }
 
-    /** Both rows full, with guest 0's first one late, so that only later steps show what waits. */
+    /** Both rows are full; x2 of each guest tells which inputs it took, and in which round. */
     private static TwinHost full() {
-        TwinHost x = busy();
+        TwinHost x = new TwinHost(3);
+        int[] code = {Check.op(20, 1, 0, 0, 11), Check.op(7, 2, 2, 3, 0), Check.op(1, 2, 2, 1, 0), Check.op(15, 0, 0, 0, -3)};
         for (int g = 0; g < 2; g++) {
-            for (int n = 0; n < 6; n++) {
-                x.input(g, 20 + n, 90 + n);
+            for (int p = 0; p < code.length; p++) {
+                x.poke(g, p, code[p]);
+            }
+            x.give(g, 3, 3);
+            for (int n = 1; n <= 6; n++) {
+                x.input(g, 5 * n, n);
             }
         }
         return x;
@@ -284,7 +289,12 @@ public final class RefusedTest {
             Check.due("its INPUT", x.control(1 - g, 11), 8);
         }
         refused("a seventh", RefusedTest::full, host -> flag(host.input(0, 0, 9)), 0);
+        refused("a seventh, late", RefusedTest::full, host -> flag(host.input(0, 99, 9)), 0);
         refused("a seventh of guest 1", RefusedTest::full, host -> flag(host.input(1, 0, 9)), 0);
+        TwinHost x = full();
+        x.run(64);
+        x.run(16);
+        Check.due("all six are taken in time", x.register(0, 2), 012340560);
     }
 
     private static void run() {

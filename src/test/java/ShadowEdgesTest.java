@@ -164,7 +164,7 @@ public final class ShadowEdgesTest {
     }
 
     private static void tracedFromFirstToLastWord() {
-        Check.sentence("A page of the memory is TRACED if the first or the second word of some shadow entry of the guest lies in it.");
+        Check.sentence("TRACED if the first or the second word of some shadow entry of the guest lies in it.");
         for (int table = 0; table < 8; table++) {
             for (int below = 0; below < 8; below++) {
                 TwinHost x = new TwinHost(16);
@@ -347,7 +347,7 @@ public final class ShadowEdgesTest {
     }
 
     private static void pokeOfTheSameWord() {
-        Check.sentence("Word p of the memory of guest g becomes w, and shadow entries whose first or second word it is are dropped");
+        Check.sentence("becomes w, and shadow entries whose first or second word it is are dropped");
         TwinHost x = writable();
         int word = x.peek(0, 48);
         Check.due("the old word", x.poke(0, 48, word), word);
@@ -357,7 +357,7 @@ public final class ShadowEdgesTest {
     }
 
     private static void guestsAreApart() {
-        Check.sentence("A page of the memory is TRACED if the first or the second word of some shadow entry of the guest lies in it.");
+        Check.sentence("TRACED if the first or the second word of some shadow entry of the guest lies in it.");
         TwinHost x = writable();
         for (int p = 32; p < 64; p++) {
             x.poke(1, p, 9);

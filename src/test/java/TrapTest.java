@@ -1,52 +1,9 @@
-/** Promise 12: traps, interrupts, the way back, and stalls. */
+/** Promise 12: interrupts and stalls. */
 public final class TrapTest {
-    private static final int MIN = Integer.MIN_VALUE;
-
     public static void main(String[] args) {
-        statusAtTraps();
-        wayBack();
         interrupts();
         stalls();
-        fetchOutside();
         Check.end();
-    }
-
-    private static void statusAtTraps() {
-        for (int status = 0; status < 16; status++) {
-            for (int user = 0; user < 2; user++) {
-                TwinHost x = new TwinHost(16);
-                x.poke(0, 10, 18);
-                x.command(0, 0, status);
-                x.command(0, 1, -7);
-                x.command(0, 4, 99);
-                x.place(0, 10, user == 1);
-                Check.due("run", x.run(1), 0);
-                int due = status & 8 | (status & 1) * 2 | (user == 1 ? 0 : 4);
-                Check.due("STATUS after " + status, x.control(0, 0), due);
-                Check.due("mode", x.user(0), false);
-                Check.due("PC", x.pc(0), -7);
-                Check.due("EPC", x.control(0, 2), 10);
-                Check.due("CAUSE", x.control(0, 3), 3);
-                Check.due("TVAL", x.control(0, 4), 0);
-            }
-        }
-    }
-
-    private static void wayBack() {
-        for (int status = 0; status < 16; status++) {
-            TwinHost x = new TwinHost(16);
-            x.poke(0, 10, 22);
-            x.command(0, 0, status);
-            x.command(0, 2, -9);
-            x.place(0, 10, false);
-            Check.due("run", x.run(1), 1);
-            int due = status & 8 | 2 | (status & 2) / 2;
-            Check.due("STATUS back from " + status, x.control(0, 0), due);
-            Check.due("mode", x.user(0), (status & 4) == 0);
-            Check.due("PC", x.pc(0), -9);
-            Check.due("COUNT", x.control(0, 10), 1);
-            Check.due("EPC", x.control(0, 2), -9);
-        }
     }
 
     /** Bits: 1 IE, 2 mode U, then two bits of ENABLE and two of PENDING. */
@@ -67,7 +24,7 @@ public final class TrapTest {
             Check.due("run", x.run(1), 0);
             int due = enable & pending;
             boolean comes = due != 0 && (on || user);
-            Check.due("CAUSE of " + bits, x.control(0, 3), !comes ? 1 : MIN + ((due & 2) != 0 ? 9 : 5));
+            Check.due("CAUSE of " + bits, x.control(0, 3), !comes ? 1 : Lab.MIN + ((due & 2) != 0 ? 9 : 5));
             Check.due("TVAL of " + bits, x.control(0, 4), comes ? 0 : 500);
             Check.due("EPC of " + bits, x.control(0, 2), 500);
             Check.due("PC of " + bits, x.pc(0), 80);
@@ -101,22 +58,5 @@ public final class TrapTest {
         Check.due("COUNT", x.control(0, 10), 1);
         Check.due("INPUT stays", x.control(0, 11), 5);
         Check.due("its turn goes on", x.turn(), 0);
-    }
-
-    private static void fetchOutside() {
-        int[] places = {128, -1, MIN, Integer.MAX_VALUE};
-        for (int v : places) {
-            TwinHost x = new TwinHost(16);
-            x.place(0, v, true);
-            Check.due("run", x.run(1), 0);
-            Check.due("CAUSE", x.control(0, 3), 1);
-            Check.due("TVAL", x.control(0, 4), v);
-            Check.due("EPC", x.control(0, 2), v);
-            Check.due("begun", x.count(0, 0), 0);
-        }
-        TwinHost y = new TwinHost(16);
-        y.place(0, 127, false);
-        Check.due("the last word", y.run(2), 1);
-        Check.due("then the one behind it", y.control(0, 4), 128);
     }
 }

@@ -13,8 +13,6 @@ public final class WalkTest {
 
     public static void main(String[] args) {
         for (int kind = 0; kind < 3; kind++) {
-            addressEdges(kind);
-            brokenTables(kind);
             for (int bits = 0; bits < 32; bits++) {
                 for (int way = 0; way < 4; way++) {
                     leafBits(kind, bits, (way & 1) != 0, (way & 2) != 0);
@@ -23,77 +21,8 @@ public final class WalkTest {
         }
         whereThingsLie();
         reuse();
-        dirty();
-        modeAndEntries();
         ownLeaf();
         Check.end();
-    }
-
-    private static void addressEdges(int kind) {
-        int[] wrong = {-1, 256, Integer.MIN_VALUE, Integer.MAX_VALUE};
-        for (int v : wrong) {
-            Lab.faults(Lab.paged(false, false), kind, v, Lab.PAGE_FAULT[kind], "kind " + kind + " at " + v);
-        }
-        TwinHost x = Lab.paged(false, false);
-        x.poke(0, 32, Lab.entry(V | R | W | X, 4));
-        Check.due("at 0", Lab.access(x, kind, 0), 1);
-        Check.due("at 47", Lab.access(x, kind, 47), 1);
-        Check.due("entry of 0", x.shadow(0, 0), 4 + 8 * 14 + (kind == STORE ? 512 : 0));
-        Check.due("entry of 47", x.shadow(0, 2), 6 + 8 * 14 + (kind == STORE ? 512 : 0));
-    }
-
-    private static void brokenTables(int kind) {
-        int out = Lab.OUTSIDE[kind];
-        int page = Lab.PAGE_FAULT[kind];
-        int all = V | R | W | X;
-        firstFaults(kind, Lab.entry(all - V, 4), page);
-        firstFaults(kind, Lab.entry(V | W, 4), page);
-        firstFaults(kind, Lab.entry(V | W | X, 4), page);
-        for (int number = 0; number < 16; number++) {
-            if (number % 4 != 0) {
-                firstFaults(kind, Lab.entry(all, number), page);
-            }
-        }
-        firstFaults(kind, Lab.entry(all, 8), out);
-        firstFaults(kind, Lab.entry(all, 12), out);
-        firstFaults(kind, Lab.entry(all | U, 8), page);
-        for (int number = 8; number < 16; number++) {
-            firstFaults(kind, Lab.entry(V, number), out);
-            firstFaults(kind, Lab.entry(number, number), page);
-            secondFaults(kind, Lab.entry(all, number), out);
-            secondFaults(kind, Lab.entry(V | U, number), page);
-            secondFaults(kind, Lab.entry(all | U, number), page);
-        }
-        secondFaults(kind, 0, page);
-        secondFaults(kind, Lab.entry(all - V, 4), page);
-        secondFaults(kind, Lab.entry(V, 4), page);
-        secondFaults(kind, Lab.entry(V | W, 4), page);
-        secondFaults(kind, Lab.entry(V | W | X, 4), page);
-        TwinHost x = Lab.paged(false, false);
-        x.command(0, 6, 128 + 8);
-        // The code cannot be fetched without a table, so only a fetch shows this.
-        Lab.faults(x, FETCH, 17, 1, "TABLE 8");
-        x.command(0, 6, 128 + 15);
-        Lab.faults(x, FETCH, 255, 1, "TABLE 15");
-        Lab.faults(x, FETCH, 256, 12, "TABLE 15, too far");
-    }
-
-    private static void firstFaults(int kind, int first, int cause) {
-        TwinHost x = Lab.paged(false, false);
-        x.poke(0, 32, first);
-        Lab.faults(x, kind, 21, cause, "kind " + kind + " first " + first);
-        Check.due("first word stays", x.peek(0, 32), first);
-        Check.due("no entry", x.shadow(0, 1), -1);
-    }
-
-    private static void secondFaults(int kind, int second, int cause) {
-        TwinHost x = Lab.paged(false, false);
-        x.poke(0, 32, Lab.entry(V, 3));
-        x.poke(0, 49, second);
-        Lab.faults(x, kind, 21, cause, "kind " + kind + " second " + second);
-        Check.due("second word stays", x.peek(0, 49), second);
-        Check.due("no entry", x.shadow(0, 1), -1);
-        Check.due("page 3 is not traced", x.traced(0, 3), false);
     }
 
     private static boolean allowed(int kind, int bits, boolean user, boolean sum) {
@@ -183,58 +112,6 @@ public final class WalkTest {
         Lab.access(x, LOAD, 5);
         Check.due("the new table counts", x.register(0, 3), 4711);
         Check.due("filled again", x.shadow(0, 0), 8 * R);
-    }
-
-    private static void dirty() {
-        TwinHost x = Lab.paged(false, false);
-        x.poke(0, 32, Lab.entry(V, 3));
-        x.poke(0, 33, Lab.entry(V, 3));
-        x.poke(0, 49, Lab.entry(V | R | W, 5));
-        Lab.access(x, LOAD, 21);
-        Check.due("D is off", x.shadow(0, 1), 5 + 8 * 6);
-        Lab.access(x, LOAD, 85);
-        Check.due("D is off at the other", x.shadow(0, 5), 5 + 8 * 6);
-        Check.due("fills", x.count(0, 1), 3);
-        Lab.access(x, STORE, 21);
-        Check.due("D is on", x.shadow(0, 1), 5 + 8 * 6 + 512);
-        Check.due("D is on in the leaf", x.peek(0, 49), Lab.entry(V | R | W | A | D, 5));
-        Check.due("a walk for D", x.count(0, 1), 4);
-        Check.due("the other entry stays as it was", x.shadow(0, 5), 5 + 8 * 6);
-        Check.due("nothing is dropped", x.count(0, 4), 0);
-        Lab.access(x, STORE, 85);
-        Check.due("so its store walks too", x.count(0, 1), 5);
-        Check.due("D is on there", x.shadow(0, 5), 5 + 8 * 6 + 512);
-        Lab.access(x, STORE, 85);
-        Lab.access(x, STORE, 21);
-        Lab.access(x, LOAD, 21);
-        Check.due("now all go through", x.count(0, 1), 5);
-        Check.due("no traced stores", x.count(0, 3), 0);
-    }
-
-    private static void modeAndEntries() {
-        TwinHost x = Lab.paged(true, false);
-        x.poke(0, 34, Lab.entry(V | X, 4));
-        x.poke(0, 32, Lab.entry(V | R | W | U, 4));
-        Lab.access(x, LOAD, 21);
-        int had = x.shadow(0, 1);
-        Check.due("entry", had, 5 + 8 * 22);
-        // The same code, at the virtual page 11, where mode S may fetch it.
-        x.place(0, 176, false);
-        Check.due("S may not without SUM", x.run(1), 0);
-        Check.due("CAUSE", x.control(0, 3), 13);
-        Check.due("the entry stays", x.shadow(0, 1), had);
-        x.command(0, 0, 8);
-        x.place(0, 176, false);
-        int fills = x.count(0, 1);
-        Check.due("S may with SUM", x.run(1), 1);
-        Check.due("through the entry", x.count(0, 1), fills);
-        x.place(0, 16, false);
-        Check.due("no fetch", x.run(1), 0);
-        Check.due("CAUSE", x.control(0, 3), 12);
-        x.place(0, 176, true);
-        Check.due("U may not fetch there", x.run(1), 0);
-        Check.due("CAUSE", x.control(0, 3), 12);
-        Check.due("TVAL", x.control(0, 4), 176);
     }
 
     /** The access comes after its fill, so a load of its own leaf finds A on there. */
