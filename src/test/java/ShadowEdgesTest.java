@@ -12,6 +12,7 @@ public final class ShadowEdgesTest {
         whatAnEntryShows();
         inPlaceOfTheOneItHad();
         goesThroughIfAllowed();
+        whereItGoesThrough();
         storeNeedsD();
         entriesOutliveTheirRights();
         noneAndAll();
@@ -84,6 +85,27 @@ public final class ShadowEdgesTest {
         x.place(0, 64, true);
         Check.due("not in U", x.run(1), 0);
         Check.due("CAUSE", x.control(0, 3), 12);
+    }
+
+    private static void whereItGoesThrough() {
+        Check.sentence("It is then at the word (v & 15) of the entry's page.");
+        int leaf = V | R | W | X;
+        int[] within = {0, 1, 15};
+        for (int n : within) {
+            TwinHost x = shared(leaf | D);
+            Lab.access(x, Lab.LOAD, 72);
+            int fills = x.count(0, 1);
+            x.poke(0, 80 + n, Check.op(0, 4, 0, 0, 44 + n));
+            Check.due("fetch at " + (64 + n), Lab.access(x, Lab.FETCH, 64 + n), 1);
+            Check.due("x4", x.register(0, 4), 44 + n);
+            Check.due("load at " + (64 + n), Lab.access(x, Lab.LOAD, 64 + n), 1);
+            Check.due("x3", x.register(0, 3), Check.op(0, 4, 0, 0, 44 + n));
+            Check.due("store at " + (64 + n), Lab.access(x, Lab.STORE, 64 + n), 1);
+            for (int p = 80; p < 96; p++) {
+                Check.due("word " + p, x.peek(0, p), p == 80 + n ? Lab.DATA : 0);
+            }
+            Check.due("all went through", x.count(0, 1), fills);
+        }
     }
 
     private static void storeNeedsD() {

@@ -114,7 +114,7 @@ public final class WalkTest {
         Check.due("filled again", x.shadow(0, 0), 8 * R);
     }
 
-    /** The access comes after its fill, so a load of its own leaf finds A on there. */
+    /** The access comes after its fill, so a load or a fetch of its own leaf finds A on there. */
     private static void ownLeaf() {
         TwinHost x = Lab.paged(false, false);
         x.poke(0, 32, Lab.entry(V, 3));
@@ -127,5 +127,11 @@ public final class WalkTest {
         Check.due("the entry is dropped", x.shadow(0, 2), -1);
         Check.due("dropped", x.count(0, 4), 1);
         Check.due("a traced store", x.count(0, 3), 1);
+        // As an instruction, the leaf 9 with A on is x1 = i << 16, and without A it would be x0 = i << 16.
+        TwinHost y = Lab.paged(false, false);
+        y.poke(0, 32, Lab.entry(V, 3));
+        y.poke(0, 50, Lab.entry(V | X, 3) | 7 << 16);
+        Check.due("fetch of its own leaf", Lab.access(y, FETCH, 34), 1);
+        Check.due("A is on in what is done", y.register(0, 1), 7 << 16);
     }
 }
