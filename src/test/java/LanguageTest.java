@@ -17,6 +17,7 @@ public final class LanguageTest {
         String code = String.join("\n", lines).replaceAll("(?s)/\\*.*?\\*/", "").replaceAll("//[^\n]*", "");
         words(code);
         methods(lines);
+        madeInConstructorsAlone(code);
         Check.end();
     }
 
@@ -31,6 +32,18 @@ public final class LanguageTest {
         Check.due("rule 3: characters", code.chars().allMatch(c -> c < 128), true);
         for (Matcher loop = Pattern.compile("\\b(while|do)\\b").matcher(code); loop.find();) {
             Check.due("rule 9: a loop without a counter, " + loop.group(), true, false);
+        }
+    }
+
+    /** What README.md says too: all there is is made with a field or in the one constructor that makes the guests. */
+    private static void madeInConstructorsAlone(String code) {
+        Pattern field = Pattern.compile(" +final [\\w\\[\\]]+ \\w+ = new .*;");
+        Pattern guests = Pattern.compile(" +guests = new Guest\\[\\] \\{new Guest\\(\\), new Guest\\(\\)\\};");
+        for (String line : code.split("\n")) {
+            if (Pattern.compile("\\bnew\\b").matcher(line).find()) {
+                boolean once = field.matcher(line).matches() || guests.matcher(line).matches();
+                Check.due("rule 12: made once," + line, once, true);
+            }
         }
     }
 
